@@ -246,7 +246,9 @@ public final class LoadChecks {
 
     public int missing(int vehicle, int i) throws IllegalArgumentException, IndexOutOfBoundsException {
         Vehicle asked = knownVehicle(vehicle);
-        requireRange(i, 0, Integer.MAX_VALUE);
+        if (i < 0) {
+            throw new IndexOutOfBoundsException("below the first");
+        }
         int[] needed = needs[asked.kind];
         int cell = asked.missingCell(needed, i);
         if (cell < 0 || cell >= CELLS) {

@@ -279,6 +279,9 @@ public final class PromisesTest {
         due.answers("8: the front is relieved and still beyond, the rear is at its limit", 1,
                 () -> x.put(0, 3, 0, 1));
         due.answers("8: the front now", 400, () -> x.axle(0, 0));
+        x.limits(0, WIDE, 700);
+        due.answers("8: the rear is beyond but bears no more", 6, () -> x.put(0, 0, 0, 1));
+        x.use(0, 0, 0, 1);
         x.limits(0, 600, 700);
         due.answers("8: the rear is relieved, the front at its limit", 1, () -> x.put(0, 2, 0, 1));
         due.refuses("8: the rear is relieved, the front beyond", Due.STATE, () -> x.put(0, 2, 0, 1));
@@ -362,6 +365,12 @@ public final class PromisesTest {
         due.answers("10: more than needed stays", 0, () -> x.replace(1));
         due.answers("10: as it was", 5, () -> x.has(1, 1, 29));
         due.refuses("10: no rows", Due.UNKNOWN, () -> x.row(0, 0));
+        x.list(0, 0, 0, 1);
+        x.list(0, 7, 29, 1);
+        x.stock(0, 1);
+        due.answers("10: the first and the last of all", 2, () -> x.replace(0));
+        due.answers("10: the first", 1, () -> x.has(0, 0, 0));
+        due.answers("10: the last", 1, () -> x.has(0, 7, 29));
     }
 
     private static void p10ReplaceLeavesOut() {
@@ -495,6 +504,16 @@ public final class PromisesTest {
         x.now(9_999, 2);
         x.check(0);
         due.answers("12: on the last day", 4, () -> x.ready(0));
+        x.list(0, 2, 5, 0);
+        x.list(0, 0, 0, 1);
+        x.put(0, 0, 0, 1);
+        x.ends(0, 0, 1);
+        due.answers("12: of the first cupboard's first item", 4, () -> x.ready(0));
+        x.list(0, 0, 0, 0);
+        x.list(0, 7, 29, 1);
+        x.put(0, 7, 29, 1);
+        x.ends(0, 29, 1);
+        due.answers("12: of the last cupboard's last item", 4, () -> x.ready(0));
     }
 
     private static void p13Battery() {
@@ -523,6 +542,15 @@ public final class PromisesTest {
         x.item(28, 0, 100);
         x.battery(0, 28, 0);
         due.answers("13: an item that it does not need", 0, () -> x.ready(0));
+        x.item(0, 0, 1);
+        x.battery(0, 0, 0);
+        x.list(0, 0, 0, 1);
+        x.put(0, 0, 0, 1);
+        due.answers("13: of the first cupboard's first item", 5, () -> x.ready(0));
+        x.list(0, 0, 0, 0);
+        x.list(0, 7, 28, 1);
+        x.put(0, 7, 28, 1);
+        due.answers("13: of the last cupboard", 5, () -> x.ready(0));
     }
 
     private static void p14Seal() {
@@ -669,6 +697,7 @@ public final class PromisesTest {
         for (int cell = 0; cell < 240; cell++) {
             x.list(0, cell / 30, cell % 30, 99);
         }
+        due.answers("18: the first of 240", 99, () -> x.missing(1, 0));
         due.answers("18: the last of 240", 72_999, () -> x.missing(1, 239));
         due.answers("18: no 241st", -1, () -> x.missing(1, 240));
     }
