@@ -8,40 +8,70 @@ final class Due {
     static final Class<? extends Exception> NO_ROOM = UnsupportedOperationException.class;
     static final Class<? extends Exception> ARITHMETIC = ArithmeticException.class;
 
+    private static final int MOST_REPORTS = 50;
+
     interface Act {
         void run() throws Exception;
     }
 
+    interface IntAct {
+        void run(int number) throws Exception;
+    }
+
+    private String place = "";
     private int wrong;
 
-    void answers(String call, long want, Callable<? extends Number> got) {
+    /** Reports from here on name this case. */
+    void begin(String name) {
+        place = name;
+    }
+
+    void answers(long want, Callable<? extends Number> got) {
         try {
             long answer = got.call().longValue();
             if (answer != want) {
-                report(call + " answered " + answer + ", due is " + want);
+                report("answered " + answer + ", due is " + want);
             }
         } catch (Exception e) {
-            report(call + " throws " + e + ", due is " + want);
+            report("throws " + e + ", due is " + want);
         }
     }
 
-    void passes(String call, Act act) {
+    void passes(Act act) {
         try {
             act.run();
         } catch (Exception e) {
-            report(call + " throws " + e + ", due is that it passes");
+            report("throws " + e + ", due is that it passes");
         }
     }
 
-    /** The very class: the machine's own exceptions are often below the ones that the document names. */
-    void refuses(String call, Class<? extends Exception> want, Act act) {
+    /** That the call throws this very class, and that the object is as it was. */
+    void refuses(LoadChecks x, Class<? extends Exception> want, Act act) {
+        refuses("", x, want, act);
+    }
+
+    /** The neighbours of a range and the ends of int are refused. */
+    void refusesOutside(int least, int most, LoadChecks x, Class<? extends Exception> want, IntAct act) {
+        for (int number : new int[] {least - 1, most + 1, Integer.MIN_VALUE, Integer.MAX_VALUE}) {
+            refuses("with " + number + " ", x, want, () -> act.run(number));
+        }
+    }
+
+    // The very class: the machine's own exceptions are often below the ones that the document names.
+    private void refuses(String text, LoadChecks x, Class<? extends Exception> want, Act act) {
+        String before = State.of(x);
         try {
             act.run();
-            report(call + " passes, due is " + want.getName());
+            report(text + "passes, due is " + want.getName());
         } catch (Exception e) {
             if (e.getClass() != want) {
-                report(call + " throws " + e + ", due is " + want.getName());
+                report(text + "throws " + e + ", due is " + want.getName());
+            } else if ("/ by zero".equals(e.getMessage())) {
+                report(text + "lets the machine divide by zero, due is a throw of its own");
             }
+        }
+        if (!State.of(x).equals(before)) {
+            report(text + "changes the object, due is that it changes nothing");
         }
     }
 
@@ -60,8 +90,14 @@ final class Due {
 
     private void report(String text) {
         wrong++;
-        if (wrong <= 50) {
-            System.out.println(text);
+        if (wrong <= MOST_REPORTS) {
+            System.out.println(place + " line " + callersLine() + ": " + text);
         }
+    }
+
+    private static int callersLine() {
+        return StackWalker.getInstance().walk(frames -> frames
+                .filter(frame -> !frame.getClassName().startsWith("Due"))
+                .findFirst().map(StackWalker.StackFrame::getLineNumber).orElse(0));
     }
 }
